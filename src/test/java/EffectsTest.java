@@ -14,6 +14,8 @@ public final class EffectsTest {
         order();
         depends();
         rounds();
+        eightRounds();
+        tenEffects();
         c.end();
     }
 
@@ -206,6 +208,49 @@ public final class EffectsTest {
         c.due("13: STATE the second does nothing", x.depends(2, 1), LayeredRules.STATE);
         c.due("13: STATE the first does nothing", x.depends(1, 2), LayeredRules.STATE);
         c.due("13: BAD ahead of STATE", x.depends(1, 1), LayeredRules.BAD);
+    }
+
+    /** Each lives by an effect of the one ahead of it. */
+    private static void eightRounds() {
+        LayeredRules x = new LayeredRules();
+        for (int t = 0; t < 8; t++) {
+            x.thing(t % 2, 0, t, 5);
+            if (t > 0) {
+                x.effect(4, 5, t, 0, 1);
+                x.source(t - 1, t - 1);
+                x.set(t, 4, 5);
+            }
+        }
+        c.due("rounds: all live", x.count(1), 255);
+        c.due("rounds: the first dies", x.set(0, 4, 5), 0);
+        c.due("rounds: and all the others, one by one", x.count(1), 0);
+        for (int t = 0; t < 8; t++) {
+            c.due("rounds: force as it last was", x.now(t, 2), t);
+            c.due("rounds: guard as it last was", x.now(t, 3), 5);
+        }
+        c.due("rounds: no effect does something", x.order(-1), 0);
+    }
+
+    private static void tenEffects() {
+        LayeredRules x = new LayeredRules();
+        x.thing(0, 0, 0, 9);
+        for (int e = 0; e < 10; e++) {
+            x.effect(4, 0, 0, 9, 9);
+        }
+        c.due("ten: force", x.now(0, 2), 90);
+        c.due("ten: guard", x.now(0, 3), 99);
+        c.due("ten: how many", x.order(-1), 10);
+        for (int i = 0; i < 10; i++) {
+            c.due("ten: order", x.order(i), i);
+        }
+        x.ends(9);
+        x.ends(0);
+        x.effect(4, 0, 0, -1, 0);
+        x.lasts(8, 5);
+        x.effect(4, 0, 0, -2, 0);
+        c.due("ten: force", x.now(0, 2), 69);
+        c.due("ten: each for itself", x.lasts(9, 0), 0);
+        c.due("ten: each for itself", x.lasts(8, 0), 5);
     }
 
     /** One dies, with it its effect, by which another one lived; and so on. */

@@ -56,6 +56,24 @@ public final class HappeningsTest {
         x.hurt(0, 50);
         c.due("21: none is left", x.count(3), 0);
         c.due("21: wounds", x.of(0, 4), 43);
+        for (int r = 0; r < 8; r++) {
+            x.rule(2, 0, 0, 0);
+        }
+        x.hurt(0, 99);
+        c.due("21: 999 wounds at most", x.of(0, 4), 999);
+        x.clear();
+        x.thing(0, 0, 1, 99);
+        for (int v = 1; v <= 3; v++) {
+            x.rule(0, 0, 0, v);
+        }
+        x.choice(0, 1);
+        x.hurt(0, 4);
+        c.due("21: the greatest goes, of the next one 1", x.count(3), 2);
+        c.due("21: untouched", x.ruleOf(0, 1), 1);
+        c.due("21: 1 left", x.ruleOf(1, 1), 1);
+        x.hurt(0, 2);
+        c.due("21: both go", x.count(3), 0);
+        c.due("21: no wounds", x.of(0, 4), 0);
     }
 
     private static void healedInstead() {
@@ -212,6 +230,10 @@ public final class HappeningsTest {
         c.due("raise: dead ahead of the act", x.hurt(0, 10), 1);
         c.due("raise: nothing comes to the dead", x.of(0, 3), 12);
         c.due("raise: dead", x.of(0, 5), 0);
+        x.thing(0, 0, 3, 95);
+        c.due("raise: act", x.hurt(1, 1), 1);
+        c.due("raise: force", x.of(1, 2), 12);
+        c.due("raise: guard 99 at most", x.of(1, 3), 99);
     }
 
     private static void nothingComes() {

@@ -57,6 +57,17 @@ public final class RulesTest {
         c.due("16: the last goes", x.unrule(1), 1);
         c.due("16: numbers", x.ruleOf(0, 1), 2);
         c.due("16: none", x.unrule(0), 0);
+        for (int r = 0; r < 8; r++) {
+            x.rule(0, 0, 0, 10 + r);
+        }
+        x.unrule(2);
+        x.unrule(4);
+        x.rule(0, 0, 0, 20);
+        x.rule(0, 0, 0, 21);
+        int[] due = {10, 11, 13, 14, 16, 17, 20, 21};
+        for (int r = 0; r < 8; r++) {
+            c.due("16: each for itself", x.ruleOf(r, 1), due[r]);
+        }
     }
 
     private static void choice() {
@@ -114,6 +125,19 @@ public final class RulesTest {
         c.due("20: none", x.unwatch(0), 0);
         c.due("20: a new one has scope all", x.watch(0, 0, 0, 0, 0), 0);
         c.due("20: all", x.watches(0, 0, 0), 0);
+        for (int w = 1; w < 8; w++) {
+            x.watch(0, 0, 0, 0, 0);
+            x.watches(w, w % 6, 0);
+        }
+        x.unwatch(2);
+        x.unwatch(4);
+        x.watch(0, 0, 0, 0, 0);
+        c.due("20: a new one has scope all", x.watches(6, 5, 1), 0);
+        x.watch(0, 0, 0, 0, 0);
+        int[] due = {0, 1, 3, 4, 0, 1, 5, 0};
+        for (int w = 0; w < 8; w++) {
+            c.due("20: each for itself", x.watches(w, 0, 0), due[w]);
+        }
     }
 
     private static void aim() {

@@ -9,6 +9,7 @@ public final class SheetsTest {
         writeAndItem();
         copy();
         image();
+        fullImage();
         count();
         c.end();
     }
@@ -113,6 +114,11 @@ public final class SheetsTest {
         c.due("34: -13 ahead of -12", x.copy(0, 9, 2, 0, -1), -13);
         c.due("34: BAD", x.copy(4, 0, 0, 0, 1), LayeredRules.BAD);
         c.due("34: BAD", x.copy(0, 0, -1, 0, 1), LayeredRules.BAD);
+        c.due("34: BAD", x.copy(0, 0, 4, 0, 1), LayeredRules.BAD);
+        c.due("34: BAD", x.copy(-1, 0, 0, 0, 1), LayeredRules.BAD);
+        x.sheet(3, 1, 3);
+        c.due("34: the whole of the last sheet", x.copy(3, 0, 1, 0, 3), 3);
+        c.due("34: to the whole of the last sheet", x.copy(1, 0, 3, 0, 3), 3);
         for (int i = 0; i < 5; i++) {
             x.write(0, i, 10 + i);
         }
@@ -188,6 +194,57 @@ public final class SheetsTest {
         x.deal(2);
         c.due("36: back to none", x.back(), 0);
         c.due("36: none", x.count(0), 0);
+    }
+
+    /** All rows full, and all others put in their place: nothing of these stays. */
+    private static void fullImage() {
+        LayeredRules x = new LayeredRules();
+        fill(x, 0);
+        x.set(7, 4, 99);
+        x.hurt(6, 99);
+        String was = Checks.view(x);
+        x.image();
+        x.clear();
+        fill(x, 1);
+        for (int t = 0; t < 8; t++) {
+            x.set(t, 4, 99);
+        }
+        c.due("36: back", x.back(), 8);
+        c.that("36: all is as it was", was.equals(Checks.view(x)));
+        for (int w = 0; w < 8; w++) {
+            c.due("36: scopes of watchers", x.watches(w, w % 6, 1), w % 6);
+        }
+        for (int e = 0; e < 10; e++) {
+            c.due("36: effects last", x.lasts(e, e), e);
+            c.due("36: sources", x.source(e, e % 3 - 1), e % 3 - 1);
+        }
+        LayeredRules y = new LayeredRules();
+        fill(y, 0);
+        y.set(7, 4, 99);
+        y.hurt(6, 99);
+        for (int k = 0; k < 6; k++) {
+            c.due("36: turns go on alike", x.next(), y.next());
+            c.due("36: wounds go on alike", x.hurt(k, 1 + k), y.hurt(k, 1 + k));
+            c.that("36: alike", Checks.view(x).equals(Checks.view(y)));
+        }
+    }
+
+    private static void fill(LayeredRules x, int way) {
+        for (int t = 0; t < 8; t++) {
+            x.thing((t + way) % 2, (t + way) % 6, t + 3 * way, 90 - 5 * t - way);
+        }
+        for (int e = 0; e < 10; e++) {
+            x.effect((e + 5 * way) % 6, (e + 3 * way) % 6, 1, (e + way) % 5, 9 - e);
+            x.lasts(e, way == 0 ? e : 9 - e);
+            x.source(e, (e + way) % 3 - 1);
+        }
+        for (int r = 0; r < 8; r++) {
+            x.rule(r < 4 ? 0 : way, (r + way) % 6, (r + way) % 2, 20 - r - way);
+        }
+        for (int w = 0; w < 8; w++) {
+            x.watch((w + way) % 2, (w + way) % 3, 1 + (w + way) % 2, w - 1, (w + way) % 4);
+            x.watches(w, (w + way) % 6, 1);
+        }
     }
 
     private static void count() {

@@ -41,6 +41,7 @@ public final class ThingsTest {
         x.set(0, 3, 99);
         c.due("2: a loop to be forgotten", x.hurt(0, 1), LayeredRules.LOOP);
         c.due("2: shown", x.shown(-1), 40);
+        x.choice(0, 1);
         x.choice(1, 1);
         x.unwatch(0);
         x.next();
@@ -55,6 +56,7 @@ public final class ThingsTest {
         c.due("2: the tape stays", x.count(6), 1);
         c.due("2: z stays", x.count(7), 77);
         c.due("2: sheets stay", x.item(2, 1), 9);
+        c.due("2: choice is as at first", x.choice(0, 0), 0);
         c.due("2: choice is as at first", x.choice(1, 0), 0);
         c.due("2: shown is as at first", x.shown(-1), 0);
         c.due("2: order", x.order(-1), 0);
@@ -148,7 +150,13 @@ public final class ThingsTest {
         c.due("6: force", x.set(0, 2, 99), 3);
         c.due("6: guard", x.set(0, 3, 99), 4);
         c.due("6: wounds", x.set(0, 4, 98), 0);
-        c.due("6: wounds", x.of(0, 4), 98);
+        int[] due = {0, 5, 99, 99, 98};
+        for (int what = 0; what <= 4; what++) {
+            c.due("6: it became so", x.of(0, what), due[what]);
+        }
+        c.due("6: down to 0", x.set(0, 1, 0), 5);
+        c.due("6: down to 0", x.set(0, 2, 0), 99);
+        c.due("6: it became so", x.of(0, 1) + x.of(0, 2), 0);
         int[][] wrong = {{0, 0, 0}, {0, 5, 0}, {0, 1, 6}, {0, 1, -1}, {0, 2, 100}, {0, 2, -1}, {0, 3, 100}, {0, 3, -1},
             {0, 4, 1000}, {0, 4, -1}, {1, 1, 1}, {-1, 1, 1}};
         for (int[] w : wrong) {
