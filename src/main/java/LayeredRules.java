@@ -26,14 +26,14 @@ public final class LayeredRules {
 
     private static final int MISSING = -1, BYTES = 0, INTS = 1;
 
-    private final World world = new World();
+    private final Course course = new Course();
+    private final World world = course.w;
+    private final Look look = course.look;
     private final World ahead = new World();
     private final World kept = new World();
     private boolean hasImage;
-    private final Look look = new Look();
     private final Look trial = new Look();
     private final Wound trace = new Wound();
-    private final Course course = new Course(world, look);
     private final Reader reader = new Reader();
     private final Sheet[] sheets = new Sheet[SHEETS];
     private final int[] shownNumbers = new int[MOST_ACTS];
@@ -1084,18 +1084,13 @@ public final class LayeredRules {
 
     /** What happens: wounds, rounds of dying, the stack. */
     private static final class Course {
-        private final World w;
-        private final Look look;
+        final World w = new World();
+        final Look look = new Look();
         private final Wound wound = new Wound();
         private final int[] stackWatcher = new int[STACK_ROOM];
         private final int[] stackThing = new int[STACK_ROOM];
         private int top;
         final int[] doneBy = new int[MOST_ACTS];
-
-        Course(World w, Look look) {
-            this.w = w;
-            this.look = look;
-        }
 
         void begin() {
             top = 0;

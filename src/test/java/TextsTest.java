@@ -78,14 +78,14 @@ public final class TextsTest {
             "all sets 1", "all sets 1 2 3", "all sets - - 1 2", "all sets -10 2", "all gets 1 -", "all gets 1 10",
             "all swaps;", "all swaps ; ", "all swaps all swaps", ";all swaps", "all swaps;;", "all swaps 1",
             "all Swaps", "all swapS", "all\tswaps", "all swaps\n", "all is 1.", "all gets 99999999999999999999 1",
-            "all is 4294967296", "all swaps;type 1 is 7", "all,swaps", "without", "all isall", "all gets 1 2-"};
+            "all is 4294967296", "all swaps;type 1 is 7", "all,swaps", "without", "all isall", "all gets 1 2-", "all swapsz", "all swapsa"};
         int[] due = {0, 3, 0, 3, 4, 0, 0, 0, 4, 4,
             6, 6, 5, 5, 8, 6,
             6, 6, 7, 6, 7, 10, 10,
             10, 13, 11, 10, 12, 11,
             10, 12, 10, 0, 10, 10,
             4, 4, 3, 9, 8, 9,
-            7, 20, 3, 7, 4, 12};
+            7, 20, 3, 7, 4, 12, 4, 4};
         LayeredRules x = new LayeredRules();
         for (int i = 0; i < texts.length; i++) {
             c.due("27: FAULT of '" + texts[i] + "'", Checks.read(x, texts[i]), -100 - due[i]);
